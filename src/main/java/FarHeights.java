@@ -1083,6 +1083,8 @@ public final class FarHeights {
         static final int NO_FAULT = -1;
 
         private static final int MOST_OPEN = 3, MOST_DIGITS = 3, MOST_LETTERS = 4, MOST_BEND = 99;
+        /** More than a tape has room for: a comparison with its "or" is 5 bytes and 2 steps, a "not" 3 and 1. */
+        private static final int MOST_STEPS = 100;
         /**
          * A token is its bytes in one int: a word of at most four letters, or any one other byte.
          * Tokens of more bytes, and those with a value of their own, are below 0.
@@ -1104,9 +1106,9 @@ public final class FarHeights {
         private final int[] ends = new int[MOST_LINES];
         private int steps = 0;
         /** A step is a sign with its two values, or NOT, AND, OR over what went ahead. */
-        private final int[] signs = new int[MOST_TAPE];
-        private final int[] lefts = new int[MOST_TAPE];
-        private final int[] rights = new int[MOST_TAPE];
+        private final int[] signs = new int[MOST_STEPS];
+        private final int[] lefts = new int[MOST_STEPS];
+        private final int[] rights = new int[MOST_STEPS];
 
         private byte[] text = null;
         private int size = 0;
@@ -1290,7 +1292,7 @@ public final class FarHeights {
         }
 
         private void note(int sign, int left, int right) {
-            if (steps < MOST_TAPE) {
+            if (steps < MOST_STEPS) {
                 signs[steps] = sign;
                 lefts[steps] = left;
                 rights[steps] = right;
@@ -1340,9 +1342,9 @@ public final class FarHeights {
             System.arraycopy(other.bends, 0, bends, 0, MOST_LINES);
             System.arraycopy(other.ends, 0, ends, 0, MOST_LINES);
             steps = other.steps;
-            System.arraycopy(other.signs, 0, signs, 0, MOST_TAPE);
-            System.arraycopy(other.lefts, 0, lefts, 0, MOST_TAPE);
-            System.arraycopy(other.rights, 0, rights, 0, MOST_TAPE);
+            System.arraycopy(other.signs, 0, signs, 0, MOST_STEPS);
+            System.arraycopy(other.lefts, 0, lefts, 0, MOST_STEPS);
+            System.arraycopy(other.rights, 0, rights, 0, MOST_STEPS);
         }
     }
 

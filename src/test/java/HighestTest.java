@@ -5,6 +5,7 @@ public final class HighestTest {
 
     public static void main(String[] args) {
         behind();
+        behindAtTheEdges();
         behindOfGreatHeights();
         highest();
         highestOfMany();
@@ -43,19 +44,42 @@ public final class HighestTest {
         CHECKS.due("contrary q", x.behind(0, 1), 0);
     }
 
-    /** Products of such heights pass an int. */
+    private static void behindAtTheEdges() {
+        FarHeights x = new FarHeights();
+        x.station(50);
+        x.station(0);
+        x.leg(0, 1, 0, 1);
+        x.point(60, 0);
+        x.point(70, 0);
+        x.point(50, 0);
+        x.sight(3, 0, 0, 3, 0);
+        x.sight(5, 0, 1, -3, 0);
+        x.sight(3, 1, 2, 99, 0);
+        CHECKS.due("low of p", x.span(0, 0), 2);
+        CHECKS.due("high of q", x.span(1, 1), 4);
+        CHECKS.due("p at the station's place stands high", x.span(2, 0), 495 + 12 - 2);
+        CHECKS.due("2 * 20 is not more than 4 * 10", x.behind(0, 1), 0);
+        x.falls(1, true);
+        x.sight(5, 0, 1, -4, 0);
+        CHECKS.due("2 * 20 is more than 2 * 10", x.behind(0, 1), 1);
+    }
+
+    /** A station next to great masses sees a point so high that products with it pass an int. */
     private static void behindOfGreatHeights() {
         FarHeights x = new FarHeights();
-        x.station(0);
+        x.station(50);
+        x.station(10);
+        x.leg(0, 1, 0, 1);
         for (int i = 0; i < 6; i++) {
-            x.point(0, 99);
+            x.point(49, 99);
         }
-        x.point(998, 0);
+        x.point(990, 0);
         x.point(999, 0);
-        x.sight(3, 0, 6, 999, 0);
-        x.sight(3, 0, 7, -99, 0);
-        CHECKS.due("low of p", x.span(6, 0), 0 + (999 - 59400) * 998 / 10 + 4980 - 1);
-        CHECKS.due("behind by little", x.behind(0, 7), 64);
+        x.sight(3, 0, 6, 0, 0);
+        x.sight(3, 1, 7, 0, 0);
+        CHECKS.due("lean", x.stationOf(0, 4), -29700);
+        CHECKS.due("low of p", x.span(6, 0), 29700 * 940 / 10 + 940 * 940 / 200 - 1);
+        CHECKS.due("q stands lower", x.behind(0, 7), 64);
     }
 
     private static void highest() {

@@ -250,6 +250,7 @@ public final class HostTest {
         act(both, 0, 5, 17, 10);
         act(both, 1, 5, 34, 11, 10);
         act(both, 2, 59, 12, 40, 12);
+        act(both, 2, 58, 10, 40, 12);
         act(both, 3, 5, 34 ^ 2, 13, 11, 10);
         FarHeights far = withSight(4);
         act(far, 0, 5, 17 ^ 3, 50, 10);

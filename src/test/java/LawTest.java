@@ -54,6 +54,9 @@ public final class LawTest {
         fault("bend  ", 6);
         fault("  bnd 1;", 2);
         fault("bendx 1;", 0);
+        fault("bendz 1;", 0);
+        fault("abend 1;", 0);
+        fault("bend 1 ifz 1=1;", 7);
         fault("ben", 0);
         fault("Bend 1;", 0);
         fault("bend 100;", 5);
@@ -78,6 +81,7 @@ public final class LawTest {
         fault("bend 1 if heat < 1 xor 1=1;", 19);
         fault("bend 1 if heat < 1 < 2;", 19);
         fault("bend 1 if not;", 13);
+        fault("bend 1 if notnot 1=1;", 10);
         fault("bend 1 if 1 not = 2;", 12);
         fault("bend 1 if (1=1;", 14);
         fault("bend 1 if (1=1", 14);
@@ -145,6 +149,10 @@ public final class LawTest {
         told("bend 6 if not 1 = 1 or 1 = 1;", 6);
         told("bend 6 if not (1 = 1 or 1 = 1);", 0);
         told("bend 6 if 007 = 7;", 6);
+        told("bend1if1=2" + "or1=2".repeat(36) + "or1=1;", 1);
+        told("bend1if1=2" + "or1=2".repeat(37) + ";", 0);
+        told("bend1if " + "not ".repeat(46) + "1=1;", 1);
+        told("bend1if " + "not ".repeat(45) + "1=1;", 0);
         told("bend 0; bend 06 if 1 > 2 or (2 > 3 or (3 > 4 or (4 > 3 and 1 < 2)));", 6);
     }
 }

@@ -77,6 +77,12 @@ public final class RowsTest {
         y.alterRow(1, 1, 0);
         y.alterRow(1, 2, 1);
         CHECKS.due("row 1 is a right row of station 2; row 2 is no more above", y.judge(), 3);
+        FarHeights twice = threeOfFour();
+        twice.prove();
+        for (int what = 0; what < 3; what++) {
+            twice.alterRow(1, what, 0);
+        }
+        CHECKS.due("the first row once more", twice.judge(), 2);
         FarHeights z = threeOfFour();
         z.prove();
         z.mend(0, 1, 9);

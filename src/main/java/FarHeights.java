@@ -329,8 +329,9 @@ public final class FarHeights {
         long ways = view.waysHighest(p);
         long all = view.waysInAll();
         long shared = sharedDivisor(ways, all);
-        if (ways == 0 || shared <= 0) {
-            return part;
+        // never so: all is 1 at least, and 0 ways share all of it, which makes 0 by 1
+        if (shared <= 0) {
+            return STATE;
         }
         return part == 0 ? ways / shared : all / shared;
     }

@@ -8,6 +8,7 @@ public final class HighestTest {
         behindAtTheEdges();
         behindOfGreatHeights();
         highest();
+        highestInOneWay();
         highestOfMany();
         said();
         believed();
@@ -110,6 +111,18 @@ public final class HighestTest {
         CHECKS.due("another is contrary", x.highest(0, 1), -4);
         x.point(10, 0);
         CHECKS.due("no span goes ahead of contrary", x.highest(3, 0), -3);
+    }
+
+    private static void highestInOneWay() {
+        FarHeights x = new FarHeights();
+        x.station(0);
+        x.point(10, 0);
+        x.point(10, 0);
+        x.sight(3, 0, 0, 11, 0);
+        x.sight(3, 0, 1, 10, 0);
+        CHECKS.due("11 above 10 alone", x.highest(1, 0), 1);
+        CHECKS.due("of 9", x.highest(1, 1), 9);
+        CHECKS.due("all others", x.highest(0, 0), 8);
     }
 
     /** 8 spans as wide as they can be: 135 feet each. */

@@ -30,7 +30,9 @@ public final class HostTest {
         CHECKS.due("n 40", x.sheet(0, 3, 40), 1);
         CHECKS.due("put", x.put(0, 39, 5), 1);
         CHECKS.due("item", x.item(0, 3, 39), 5);
+        x.put(0, 0, 6);
         CHECKS.due("anew", x.sheet(0, 3, 40), 1);
+        CHECKS.due("the first is 0", x.item(0, 3, 0), 0);
         CHECKS.due("all 0", x.item(0, 3, 39), 0);
         CHECKS.due("missing, n counts nothing", x.sheet(0, -1, -5), 1);
         CHECKS.due("missing, n 99", x.sheet(1, -1, 99), 1);

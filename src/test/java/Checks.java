@@ -9,18 +9,19 @@ final class Checks {
     }
 
     void due(String call, long got, long want) {
-        asked++;
-        if (got != want) {
-            wrong++;
-            System.out.println(test + ": " + call + " answered " + got + ", due is " + want);
-        }
+        right(got == want, call + " answered " + got + ", due is " + want);
     }
 
     void holds(String what, boolean so) {
+        right(so, what + " does not hold");
+    }
+
+    /** Tells what is wrong, if it is not so. */
+    void right(boolean so, String whatIsWrong) {
         asked++;
         if (!so) {
             wrong++;
-            System.out.println(test + ": " + what + " does not hold");
+            System.out.println(test + ": " + whatIsWrong);
         }
     }
 

@@ -131,8 +131,12 @@ final class Run {
         return this;
     }
 
-    int size() {
-        return calls.size();
+    /** Goes through the run on any object with these calls. */
+    void goThroughOn(Object other) throws ReflectiveOperationException {
+        for (Call call : calls) {
+            Method same = other.getClass().getDeclaredMethod(call.method.getName(), call.method.getParameterTypes());
+            same.invoke(other, call.args);
+        }
     }
 
     private void same(String call, List<Call> with) {

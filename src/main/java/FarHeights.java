@@ -16,6 +16,7 @@ public final class FarHeights {
     private static final int MOST_SLANTS_OF_BOOK = 8;
     private static final int ROW_PARTS = 3;
     private static final int SHEETS = 4, MOST_ITEMS = 40, SHELVES = 4;
+    private static final int MOST_BODIES = 30;
 
     private static final int MORNING = 1, NOON = 2, BOTH = 3, FAR = 4, HIDDEN = 5;
     private static final int SIGHT_THING = 0, POINT_THING = 6, FIRST_ROW_SORT = 10, LAST_ROW_SORT = 13;
@@ -1351,14 +1352,13 @@ public final class FarHeights {
 
     /** What acts: its number n, its SLANT or MASS a, and THE TRACE of the bodies that ran. */
     private abstract static class Thing {
-        private static final int MOST_BODIES = 30;
-
         int n = 0;
         int a = 0;
         int ran = 0;
         /** Set where a quotient by 0 was asked for: no body begins after that. */
         boolean parted = false;
-        private final int[] bodies = new int[MOST_BODIES];
+        /** Each body puts its own number down: a method for it would take act() one call deeper than may be. */
+        final int[] bodies = new int[MOST_BODIES];
 
         abstract int sees(int x);
 
@@ -1375,13 +1375,6 @@ public final class FarHeights {
             parted = false;
         }
 
-        void runs(int body) {
-            if (ran < MOST_BODIES) {
-                bodies[ran] = body;
-                ran++;
-            }
-        }
-
         int body(int i) {
             return i >= 0 && i < ran ? bodies[i] : NONE;
         }
@@ -1389,17 +1382,17 @@ public final class FarHeights {
 
     private abstract static class Sight extends Thing {
         int sees(int x) {
-            runs(10);
+            if (ran < MOST_BODIES) { bodies[ran++] = 10; }
             return x + a;
         }
 
         int bends(int x) {
-            runs(11);
+            if (ran < MOST_BODIES) { bodies[ran++] = 11; }
             return sees(x) * 2;
         }
 
         int leans(int x) {
-            runs(12);
+            if (ran < MOST_BODIES) { bodies[ran++] = 12; }
             int by = a - n;
             if (by == 0) {
                 parted = true;
@@ -1409,74 +1402,74 @@ public final class FarHeights {
         }
 
         int tells(int x) {
-            runs(13);
+            if (ran < MOST_BODIES) { bodies[ran++] = 13; }
             return bends(x) ^ n;
         }
     }
 
     private static class Morning extends Sight {
         int bends(int x) {
-            runs(20);
+            if (ran < MOST_BODIES) { bodies[ran++] = 20; }
             return super.bends(x) + 7;
         }
     }
 
     private static class Noon extends Sight {
         int sees(int x) {
-            runs(30);
+            if (ran < MOST_BODIES) { bodies[ran++] = 30; }
             return super.sees(x) - n;
         }
     }
 
     private static final class Both extends Sight {
         int leans(int x) {
-            runs(40);
+            if (ran < MOST_BODIES) { bodies[ran++] = 40; }
             return super.leans(x + 1) * 2;
         }
     }
 
     private static final class Far extends Morning {
         int sees(int x) {
-            runs(50);
+            if (ran < MOST_BODIES) { bodies[ran++] = 50; }
             return super.sees(x) ^ 3;
         }
 
         int tells(int x) {
-            runs(51);
+            if (ran < MOST_BODIES) { bodies[ran++] = 51; }
             return super.tells(x) + leans(n);
         }
     }
 
     private static final class Hidden extends Noon {
         int sees(int x) {
-            runs(60);
+            if (ran < MOST_BODIES) { bodies[ran++] = 60; }
             return 0 - super.sees(x);
         }
 
         int bends(int x) {
-            runs(61);
+            if (ran < MOST_BODIES) { bodies[ran++] = 61; }
             return super.bends(x) + sees(n);
         }
     }
 
     private static final class Peak extends Thing {
         int sees(int x) {
-            runs(70);
+            if (ran < MOST_BODIES) { bodies[ran++] = 70; }
             return x * a;
         }
 
         int bends(int x) {
-            runs(71);
+            if (ran < MOST_BODIES) { bodies[ran++] = 71; }
             return sees(x) - n;
         }
 
         int leans(int x) {
-            runs(72);
+            if (ran < MOST_BODIES) { bodies[ran++] = 72; }
             return x | a;
         }
 
         int tells(int x) {
-            runs(73);
+            if (ran < MOST_BODIES) { bodies[ran++] = 73; }
             return bends(x) + leans(n);
         }
     }
